@@ -73,8 +73,24 @@ public final class RandomRunsTest {
         }
     }
 
-    private boolean agrees() throws Exception {
+    /** Half of the runs begin with a long program, in which few labels are not defined. */
+    private int begin() throws Exception {
         int calls = 0;
+        int wanted = random.nextInt(2) == 0 ? 0 : 4 + random.nextInt(37);
+        for (int i = 0; i < wanted; i++) {
+            int kind = i < 4 ? 2 : kind();
+            String text = kind == 2 && i < 4 ? "label " + i : NAMES[kind] + (kind == 7 ? "" : " " + operand(kind));
+            for (char c : text.toCharArray()) {
+                same("append", c);
+            }
+            same("insert", random.nextInt(model.itemCount() + 1));
+            calls += text.length() + 1;
+        }
+        return calls;
+    }
+
+    private boolean agrees() throws Exception {
+        int calls = begin();
         while (calls < CALLS) {
             boolean build = random.nextInt(100) < (model.itemCount() < 12 ? 45 : 15);
             if (build) {
