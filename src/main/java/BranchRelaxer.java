@@ -5,6 +5,8 @@ import java.util.NoSuchElementException;
  * A branch relaxer: programs of items with jumps, branches, labels, alignment, loads and literal
  * pools, layout of addresses, growing of forms to a fixed point, shrinking, an exhaustive search for
  * the best forms, bounds of addresses, and reach of literals.
+ *
+ * <p>What each public method promises stands in the document, DOC.md; it is not told again here.
  */
 public final class BranchRelaxer {
     private static final int NONE = -1;
@@ -58,13 +60,11 @@ public final class BranchRelaxer {
     private boolean somethingSaved = false;
     private int keptError = NONE;
 
-    /** Creates an object with an empty program. */
     public BranchRelaxer() {
     }
 
     // ---- the program
 
-    /** Makes the program empty and returns the number of items that it had. */
     public int reset() {
         int before = program.count();
         program.clear();
@@ -72,12 +72,10 @@ public final class BranchRelaxer {
         return before;
     }
 
-    /** Returns the number of items. */
     public int itemCount() {
         return program.count();
     }
 
-    /** Appends a character to the input and returns the new length of the input. */
     public int append(char character) throws IllegalArgumentException, IllegalStateException {
         if (character < 32 || character > 126) {
             throw new IllegalArgumentException("the character code is out of range");
@@ -88,7 +86,6 @@ public final class BranchRelaxer {
         return input.add(character);
     }
 
-    /** Inserts the item in the input before an item, or at the end, and returns its kind. */
     public int insert(int position)
             throws IndexOutOfBoundsException, IllegalArgumentException, IllegalStateException {
         input.read();
@@ -112,7 +109,6 @@ public final class BranchRelaxer {
         return kind;
     }
 
-    /** Returns the error position that was kept last. */
     public int errorPosition() throws NoSuchElementException {
         if (keptError == NONE) {
             throw new NoSuchElementException("no error position was kept");
@@ -120,7 +116,6 @@ public final class BranchRelaxer {
         return keptError;
     }
 
-    /** Removes an item and returns the number of items that remain. */
     public int remove(int item) throws IndexOutOfBoundsException {
         requireItem(item);
         history.remember(program);
@@ -128,7 +123,6 @@ public final class BranchRelaxer {
         return program.count();
     }
 
-    /** Moves an item, with its form, to another place and returns its kind. */
     public int move(int item, int position) throws IndexOutOfBoundsException {
         requireItem(item);
         requireItem(position);
@@ -141,7 +135,6 @@ public final class BranchRelaxer {
         return kind;
     }
 
-    /** Returns the kind, operand, form, size or address of an item. */
     public int item(int item, int what) throws IndexOutOfBoundsException, IllegalArgumentException {
         requireItem(item);
         switch (what) {
@@ -160,7 +153,6 @@ public final class BranchRelaxer {
         }
     }
 
-    /** Returns a character of the name of the kind of an item. */
     public char nameCharacter(int item, int index)
             throws IndexOutOfBoundsException, NoSuchElementException {
         requireItem(item);
@@ -171,7 +163,6 @@ public final class BranchRelaxer {
         return name.charAt(index);
     }
 
-    /** Sets the form of a transfer and returns the previous form. */
     public int setForm(int item, int form) throws IndexOutOfBoundsException, IllegalArgumentException {
         requireItem(item);
         requireTransfer(item);
@@ -184,17 +175,14 @@ public final class BranchRelaxer {
 
     // ---- layout
 
-    /** Returns the size of all items and of the end pool. */
     public int totalSize() {
         return freshLayout().sizeWithEndPool();
     }
 
-    /** Returns the sum of the sizes of all align items and of the padding in all pools. */
     public int padding() {
         return freshLayout().paddingBytes();
     }
 
-    /** Returns the address of the item that defines a label. */
     public int labelAddress(int label) throws IndexOutOfBoundsException, NoSuchElementException {
         if (label < 0 || label >= LABELS) {
             throw new IndexOutOfBoundsException("the label is out of range");
@@ -207,7 +195,6 @@ public final class BranchRelaxer {
         return layout.addressAt(definer);
     }
 
-    /** Returns the last item whose address is at most the given one. */
     public int itemAt(int address) throws IndexOutOfBoundsException {
         freshLayout();
         if (address < 0 || address >= layout.sizeOfItems()) {
@@ -216,7 +203,6 @@ public final class BranchRelaxer {
         return layout.lastItemUpTo(address);
     }
 
-    /** Returns the address that an item would have if all transfers had the same form. */
     public int addressIf(int item, int form) throws IndexOutOfBoundsException, IllegalArgumentException {
         requireItem(item);
         requireForm(form);
@@ -224,7 +210,6 @@ public final class BranchRelaxer {
         return layout.addressWith(item, form);
     }
 
-    /** Returns the number of addresses that an item could have if the forms were free. */
     public int possibleAddresses(int item) throws IndexOutOfBoundsException {
         requireItem(item);
         links.read();
@@ -233,59 +218,50 @@ public final class BranchRelaxer {
 
     // ---- transfers
 
-    /** Returns the number of transfers. */
     public int transferCount() {
         return transfers.number();
     }
 
-    /** Returns the number of transfers with a form. */
     public int formCount(int form) throws IllegalArgumentException {
         requireForm(form);
         return transfers.numberWith(form);
     }
 
-    /** Returns the number of transfers whose label is not defined. */
     public int undefinedCount() {
         links.read();
         return transfers.numberUndefined();
     }
 
-    /** Returns the displacement of a transfer. */
     public int displacement(int item)
             throws IndexOutOfBoundsException, IllegalArgumentException, NoSuchElementException {
         requireTarget(item);
         return transfers.displacementAt(item);
     }
 
-    /** Returns whether a transfer fits. */
     public boolean fits(int item)
             throws IndexOutOfBoundsException, IllegalArgumentException, NoSuchElementException {
         requireTarget(item);
         return transfers.isFitting(item);
     }
 
-    /** Returns the number of transfers that do not fit. */
     public int misfits() throws IllegalStateException {
         requireAllDefined();
         layout.compute();
         return transfers.numberMisfitting();
     }
 
-    /** Returns the least form with which a transfer would fit with its present displacement. */
     public int neededForm(int item)
             throws IndexOutOfBoundsException, IllegalArgumentException, NoSuchElementException {
         requireTarget(item);
         return formFor(transfers.displacementAt(item));
     }
 
-    /** Relaxes the program and returns the number of rounds in which a form changed. */
     public int relax() throws IllegalStateException {
         requireAllDefined();
         history.remember(program);
         return transfers.growAll();
     }
 
-    /** Shrinks the forms and returns the number of decreases that were kept. */
     public int shrink() throws IllegalStateException {
         requireAllDefined();
         layout.compute();
@@ -296,14 +272,12 @@ public final class BranchRelaxer {
         return transfers.shrinkAll();
     }
 
-    /** Returns the least total size with forms such that all transfers fit. */
     public int leastSize() throws IllegalStateException, UnsupportedOperationException {
         requireSearchable();
         search.run();
         return search.least();
     }
 
-    /** Gives the transfers the best forms such that all fit and returns the total size then. */
     public int optimize() throws IllegalStateException, UnsupportedOperationException {
         requireSearchable();
         history.remember(program);
@@ -312,14 +286,12 @@ public final class BranchRelaxer {
         return search.least();
     }
 
-    /** Returns the number of ways to choose all forms such that all transfers fit. */
     public int consistentChoices() throws IllegalStateException, UnsupportedOperationException {
         requireSearchable();
         search.run();
         return search.choicesFound();
     }
 
-    /** Returns the average form of all transfers. */
     public double averageForm() throws ArithmeticException {
         int number = transfers.number();
         if (number == 0) {
@@ -330,49 +302,41 @@ public final class BranchRelaxer {
 
     // ---- loads and pools
 
-    /** Returns the number of pool items. */
     public int poolCount() {
         links.read();
         return links.endPoolNumber();
     }
 
-    /** Returns the number of literals of a pool. */
     public int literalCount(int pool) throws IndexOutOfBoundsException {
         requirePool(pool);
         return links.literalsIn(pool);
     }
 
-    /** Returns a literal of a pool. */
     public int literal(int pool, int index) throws IndexOutOfBoundsException {
         requireLiteral(pool, index);
         return links.valueOf(pool, index);
     }
 
-    /** Returns the address of a literal. */
     public int literalAddress(int pool, int index) throws IndexOutOfBoundsException {
         requireLiteral(pool, index);
         return freshLayout().addressOfLiteral(pool, index, 0);
     }
 
-    /** Returns the number of the pool to which a load belongs. */
     public int poolOf(int item) throws IndexOutOfBoundsException, IllegalArgumentException {
         requireLoad(item);
         links.read();
         return links.poolAt(item);
     }
 
-    /** Returns the distance of a load. */
     public int distance(int item) throws IndexOutOfBoundsException, IllegalArgumentException {
         requireLoad(item);
         return freshLayout().distanceWith(item, 0);
     }
 
-    /** Returns the number of loads that are not in reach. */
     public int loadsOutOfReach() {
         return freshLayout().loadsBeyondReach();
     }
 
-    /** Returns how many bytes of data directly before its pool would leave a load in reach. */
     public int slack(int item) throws IndexOutOfBoundsException, IllegalArgumentException {
         requireLoad(item);
         return freshLayout().slackOf(item);
@@ -380,7 +344,6 @@ public final class BranchRelaxer {
 
     // ---- history and saving
 
-    /** Takes the latest remembered change back and returns how many are still remembered. */
     public int undo() throws NoSuchElementException {
         if (history.isEmpty()) {
             throw new NoSuchElementException("no change is remembered");
@@ -388,14 +351,12 @@ public final class BranchRelaxer {
         return history.takeBack(program);
     }
 
-    /** Saves the program with its forms and returns the number of items. */
     public int save() {
         saved.copyFrom(program);
         somethingSaved = true;
         return program.count();
     }
 
-    /** Restores the program that was saved and returns the number of items. */
     public int restore() throws IllegalStateException {
         if (!somethingSaved) {
             throw new IllegalStateException("nothing was saved");
