@@ -1,4 +1,5 @@
 import java.util.Objects;
+import java.util.function.IntFunction;
 
 /** What the tests share: comparing answers with what is due, and typing programs. */
 final class Expect {
@@ -33,6 +34,21 @@ final class Expect {
         due(what, "throws." + want.getSimpleName(), outcome(call));
     }
 
+    /** A call with a number refuses what is just outside 0 to most, and what is as far outside as can be. */
+    static void refuses(String what, int most, Class<? extends RuntimeException> want, IntFunction<Object> call) {
+        for (int number : new int[] {-1, most + 1, Integer.MIN_VALUE, Integer.MAX_VALUE}) {
+            fails(what + " with " + number, want, () -> call.apply(number));
+        }
+    }
+
+    static int checked() {
+        return checked;
+    }
+
+    static int wrong() {
+        return wrong;
+    }
+
     static void type(BranchRelaxer x, String text) {
         for (char c : text.toCharArray()) {
             x.append(c);
@@ -53,10 +69,31 @@ final class Expect {
         }
     }
 
+    /** A new object with as many equal items. */
+    static BranchRelaxer times(int number, String item) {
+        BranchRelaxer x = new BranchRelaxer();
+        for (int i = 0; i < number; i++) {
+            add(x, item);
+        }
+        return x;
+    }
+
+    static String forms(BranchRelaxer x) {
+        StringBuilder all = new StringBuilder();
+        int count = x.itemCount();
+        for (int i = 0; i < count; i++) {
+            if (x.item(i, 0) == 4 || x.item(i, 0) == 5) {
+                all.append(x.item(i, 2));
+            }
+        }
+        return all.toString();
+    }
+
     /** The whole program as a text, with the forms of all items. */
     static String listing(BranchRelaxer x) {
         StringBuilder all = new StringBuilder();
-        for (int i = 0; i < x.itemCount(); i++) {
+        int count = x.itemCount();
+        for (int i = 0; i < count; i++) {
             all.append(x.item(i, 0)).append(' ').append(x.item(i, 1)).append(' ').append(x.item(i, 2)).append("; ");
         }
         return all.toString();
