@@ -1,7 +1,6 @@
 /** The sentences of the promises 31 to 38: loads and pools. */
 final class PoolSentences {
     private static final Class<IndexOutOfBoundsException> INDEX = IndexOutOfBoundsException.class;
-    private static final Class<IllegalArgumentException> ARGUMENT = IllegalArgumentException.class;
 
     private PoolSentences() {
     }
@@ -79,28 +78,9 @@ final class PoolSentences {
         });
     }
 
-    private interface LoadQuestion {
-        Object of(BranchRelaxer x, int item);
-    }
-
-    private static void loads(String promise, LoadQuestion question) {
-        Sentences.holds(promise, "Throws `IndexOutOfBoundsException` if there is no such item", () -> {
-            Expect.refuses("in nothing", -1, INDEX, item -> question.of(new BranchRelaxer(), item));
-            BranchRelaxer x = Expect.program("load 1", "pool", "load 1");
-            Expect.refuses("in three items", 2, INDEX, item -> question.of(x, item));
-            BranchRelaxer full = Expect.times(40, "load 1");
-            Expect.refuses("in 40 items", 39, INDEX, item -> question.of(full, item));
-            Expect.due("the last of 40 is refused", false,
-                Expect.outcome(() -> question.of(full, 39)).startsWith("throws."));
-        });
-        Sentences.holds(promise, "Throws `IllegalArgumentException` if the item is no load", () -> {
-            BranchRelaxer x = Expect.program("code 1", "data 1", "label 1", "align 1", "jump 1", "branch 1", "pool", "load 1");
-            for (int i = 0; i < 8; i++) {
-                int item = i;
-                boolean refused = Expect.outcome(() -> question.of(x, item)).equals("throws.IllegalArgumentException");
-                Expect.due("an item of kind " + x.item(i, 0) + " is refused", i < 7, refused);
-            }
-        });
+    private static void loads(String promise, ItemQuestions.Question question) {
+        ItemQuestions.refuseNoItem(promise, "load 1", question);
+        ItemQuestions.refuseOtherKinds(promise, "Throws `IllegalArgumentException` if the item is no load", 6, 6, question);
     }
 
     private static void poolOfAndDistance() {

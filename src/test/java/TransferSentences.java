@@ -3,7 +3,6 @@ import java.util.function.Function;
 
 /** The sentences of the promises 18 to 30: transfers. */
 final class TransferSentences {
-    private static final Class<IndexOutOfBoundsException> INDEX = IndexOutOfBoundsException.class;
     private static final Class<IllegalArgumentException> ARGUMENT = IllegalArgumentException.class;
     private static final Class<IllegalStateException> STATE = IllegalStateException.class;
     private static final Class<NoSuchElementException> ELEMENT = NoSuchElementException.class;
@@ -72,29 +71,9 @@ final class TransferSentences {
         });
     }
 
-    private interface Question {
-        Object of(BranchRelaxer x, int item);
-    }
-
-    private static void questionsAboutOne(String promise, Question question) {
-        Sentences.holds(promise, "Throws `IndexOutOfBoundsException` if there is no such item", () -> {
-            Expect.refuses("in nothing", -1, INDEX, item -> question.of(new BranchRelaxer(), item));
-            BranchRelaxer x = Expect.program("label 1", "jump 1", "jump 1");
-            Expect.refuses("in three items", 2, INDEX, item -> question.of(x, item));
-            BranchRelaxer full = Expect.times(39, "jump 1");
-            Expect.add(full, "label 1");
-            Expect.refuses("in 40 items", 39, INDEX, item -> question.of(full, item));
-        });
-        Sentences.holds(promise, "Throws `IllegalArgumentException` if the item is no transfer", () -> {
-            BranchRelaxer x = Expect.program("code 1", "data 1", "label 1", "align 1", "load 1", "pool", "jump 1", "branch 1");
-            for (int i = 0; i < 8; i++) {
-                int item = i;
-                boolean refused = Expect.outcome(() -> question.of(x, item)).equals("throws.IllegalArgumentException");
-                Expect.due("an item of kind " + x.item(i, 0) + " is refused", i < 6, refused);
-            }
-            x.remove(2);
-            Expect.fails("a load, no label being defined", ARGUMENT, () -> question.of(x, 3));
-        });
+    private static void questionsAboutOne(String promise, ItemQuestions.Question question) {
+        ItemQuestions.refuseNoItem(promise, "jump 1", question);
+        ItemQuestions.refuseOtherKinds(promise, "Throws `IllegalArgumentException` if the item is no transfer", 4, 5, question);
         Sentences.holds(promise, "Throws `NoSuchElementException` if its label is not defined", () -> {
             BranchRelaxer x = Expect.program("jump 0", "branch 9", "label 1", "jump 1");
             Expect.fails("label 0", ELEMENT, () -> question.of(x, 0));
