@@ -1,6 +1,6 @@
 /**
  * Promises 25 and 26 on full programs in which each growth, or each decrease, is the cause of the next: the longest
- * ones that a search found. What is due was reckoned by a second program that was written from the document alone.
+ * ones that a search found. What is due was reckoned by a second program, written from the document in another language.
  */
 public final class CascadesTest {
     private static final String GROWING =
